@@ -6,6 +6,7 @@ public final class CommandsTest {
         faults();
         textsWithoutFault();
         commandsDoTheirCalls();
+        textsAfterLongerOnes();
         runsStop();
         runsSaveOneState();
         undo();
@@ -51,6 +52,8 @@ public final class CommandsTest {
         fault("5", 0);
         fault("wor", 0);
         fault("words a 1;", 0);
+        fault("xord a 1;", 0);
+        fault("worx a 1;", 0);
         fault(" wor a 1;", 1);
         fault("Word a 1;", 0);
         fault("woRd a 1;", 0);
@@ -133,6 +136,14 @@ public final class CommandsTest {
         Check.due("allow and drop", Check.run(x, "allow teh the;drop the;"), 2);
         Check.due("allowed", x.whole(3), 0);
         Check.due("dropped", x.whole(0), 1);
+    }
+
+    private static void textsAfterLongerOnes() {
+        StuckKeys x = new StuckKeys();
+        Check.due("longer", Check.run(x, "word a 1;"), 1);
+        Check.due("a shorter one ends where it ends", Check.run(x, "word a 1"), -10 - 8);
+        Check.due("a shorter one without arguments", Check.run(x, "word"), -10 - 4);
+        Check.due("words", x.whole(0), 1);
     }
 
     private static void runsStop() {

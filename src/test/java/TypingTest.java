@@ -219,6 +219,17 @@ public final class TypingTest {
         Check.dueWord("a forgotten one comes anew, last", x.pair(23, 0), "b");
         Check.dueWord("and the next one goes", x.pair(2, 0), "e");
         Check.due("of the typed word none is left", x.word(Check.word("d"), 5), 0);
+        firstPairForgotten();
+    }
+
+    private static void firstPairForgotten() {
+        StuckKeys x = bookOf("m", 1);
+        x.set(0, 12);
+        for (int i = 0; i < 25; i++) {
+            c(x, "m" + (char) ('a' + i));
+        }
+        Check.dueWord("the very first goes", x.pair(0, 0), "mb");
+        Check.dueWord("the new one is last", x.pair(23, 0), "my");
     }
 
     private static void logForgets() {
@@ -320,9 +331,12 @@ public final class TypingTest {
             Check.badArgument(x, "allow(" + bad + ", the)", () -> x.allow(bad, the));
             Check.badArgument(x, "allow(teh, " + bad + ")", () -> x.allow(teh, bad));
         }
-        x.undo();
-        x.undo();
-        Check.due("undo of allow", x.undo(), 1);
-        Check.due("undo of allow that changed", x.undo(), 0);
+        Check.due("undo of the correction", x.undo(), 3);
+        Check.due("undo of an allow that changed nothing", x.undo(), 2);
+        Check.due("bans", x.whole(3), 0);
+        Check.due("undo of the allow", x.undo(), 1);
+        Check.due("bans", x.whole(3), 1);
+        Check.due("undo of the first allow", x.undo(), 0);
+        Check.due("bans", x.whole(3), 1);
     }
 }

@@ -33,6 +33,7 @@ public final class WhatIfTest {
         x.correct(Check.word("teh"));
         Check.due("learned twice", x.caseOf(Check.word("teh")), 2);
         Check.due("strange", x.caseOf(Check.word("xyz")), 4);
+        Check.due("near one word alone", x.caseOf(Check.word("tthe")), 3);
         x.set(0, 0);
         Check.due("limit 0", x.caseOf(Check.word("thw")), 4);
         for (long bad : Check.noWords()) {
@@ -68,6 +69,12 @@ public final class WhatIfTest {
         ranks(y, "aa", "aq", "as", "aw", "aam", "am");
         y.set(0, 3);
         ranks(y, "aa", "aq", "as", "aw", "aam");
+        y.dropWord(Check.word("as"));
+        y.dropWord(Check.word("aw"));
+        ranks(y, "aa", "aq", "aam");
+        y.dropWord(Check.word("aq"));
+        y.dropWord(Check.word("aam"));
+        ranks(y, "aa");
         Check.badArgument(x, "suggestion(teh, -1)", () -> x.suggestion(Check.word("teh"), -1));
         for (long bad : Check.noWords()) {
             Check.badArgument(x, "suggestion(" + bad + ", 0)", () -> x.suggestion(bad, 0));

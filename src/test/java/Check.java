@@ -5,8 +5,14 @@ final class Check {
     }
 
     private static int wrong = 0;
+    private static String sentence = "";
 
     private Check() {
+    }
+
+    /** The words of the document that the next answers are held against; they are told with a wrong one. */
+    static void sentence(String words) {
+        sentence = "\"" + words + "\": ";
     }
 
     static long word(String letters) {
@@ -25,10 +31,38 @@ final class Check {
         return letters.toString();
     }
 
+    /** An object whose book has these words with their counts: book("the", 5, "ten", 3). */
+    static StuckKeys book(Object... wordsAndCounts) {
+        StuckKeys x = new StuckKeys();
+        for (int i = 0; i < wordsAndCounts.length; i += 2) {
+            x.addWord(word((String) wordsAndCounts[i]), (Integer) wordsAndCounts[i + 1]);
+        }
+        return x;
+    }
+
+    static long correct(StuckKeys x, String typed) {
+        return x.correct(word(typed));
+    }
+
+    static void correctAll(StuckKeys x, String... typed) {
+        for (String word : typed) {
+            correct(x, word);
+        }
+    }
+
+    /** So many words of two letters: this first letter, then a, b and so on. */
+    static String[] words(char first, int count) {
+        String[] words = new String[count];
+        for (int i = 0; i < count; i++) {
+            words[i] = "" + first + (char) ('a' + i);
+        }
+        return words;
+    }
+
     static void due(String call, long got, long want) {
         if (got != want) {
             wrong++;
-            System.out.println(call + " answered " + got + ", due is " + want);
+            System.out.println(sentence + call + " answered " + got + ", due is " + want);
         }
     }
 
@@ -48,17 +82,21 @@ final class Check {
 
     private static void refused(StuckKeys x, String call, Call tried, Class<?> due) {
         long before = x.digest();
+        mustThrow(call, tried, due);
+        due(call + " and then digest()", x.digest(), before);
+    }
+
+    static void mustThrow(String call, Call tried, Class<?> due) {
         try {
             long answer = tried.answer();
             wrong++;
-            System.out.println(call + " answered " + answer + ", due is " + due.getSimpleName());
+            System.out.println(sentence + call + " answered " + answer + ", due is " + due.getSimpleName());
         } catch (RuntimeException e) {
             if (e.getClass() != due) {
                 wrong++;
-                System.out.println(call + " threw " + e + ", due is " + due.getSimpleName());
+                System.out.println(sentence + call + " threw " + e + ", due is " + due.getSimpleName());
             }
         }
-        due(call + " and then digest()", x.digest(), before);
     }
 
     /** Numbers that are no words: too small, signs out of range, gaps, and too many letters. */

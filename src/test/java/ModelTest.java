@@ -14,7 +14,7 @@ import java.util.regex.Pattern;
  * written from the document with lists, maps, texts and patterns.
  */
 public final class ModelTest {
-    private static final int RUNS = 300;
+    private static final int RUNS = 900;
     private static final int CALLS = 512;
     private static final long ARGUMENT = Long.MIN_VALUE + 1;
     private static final long STATE = Long.MIN_VALUE + 2;
@@ -35,6 +35,7 @@ public final class ModelTest {
         private final int run;
         private final int style;
         private long seed;
+        private int calls;
 
         Run(int run) {
             this.run = run;
@@ -64,38 +65,45 @@ public final class ModelTest {
             return Check.word(pool.get(draw(pool.size())));
         }
 
+        /** Later runs leave fewer of the 512 calls for looking at the values in the end. */
         void go() {
-            for (int call = 0; call < CALLS; call++) {
-                if (draw(40) == 0) {
-                    held("digest()", x.digest(), model.digest());
-                } else if (call % 50 == 49) {
-                    values();
-                }
+            int changes = 100 + run % 7 * 60;
+            while (calls < changes) {
                 oneCall();
             }
-            values();
-            held("digest()", x.digest(), model.digest());
+            both("digest()", x::digest, model::digest);
+            while (calls < CALLS - 1) {
+                oneValue();
+            }
+            both("digest()", x::digest, model::digest);
+            Check.due("calls of a run", calls, CALLS);
         }
 
         private void held(String call, long got, long want) {
+            calls++;
             Check.due("run " + run + ": " + call, got, want);
         }
 
-        /** The object's own calls may be more than 512 here, so that every value is seen. */
-        private void values() {
-            for (String w : pool) {
-                for (int what = 0; what <= 6; what++) {
-                    held("word(" + w + ", " + what + ")", x.word(Check.word(w), what), model.word(w, what));
-                }
-            }
-            for (int what = 0; what <= 11; what++) {
-                held("whole(" + what + ")", x.whole(what), model.whole(what));
-            }
-            for (int what = 0; what <= 2; what++) {
-                for (int i = 0; i < 26; i++) {
-                    held("pair(" + i + ", " + what + ")", x.pair(i, what), model.pair(i, what));
-                    held("logged(" + i + ", " + what + ")", x.logged(i, what), model.logged(i, what));
-                }
+        private void oneValue() {
+            String w = pool.get(draw(pool.size()));
+            int index = draw(26);
+            int what = draw(4);
+            int value = draw(7);
+            int ofWhole = draw(12);
+            switch (draw(6)) {
+                case 0:
+                    both("whole(" + ofWhole + ")", () -> x.whole(ofWhole), () -> model.whole(ofWhole));
+                    break;
+                case 1:
+                    both("pair(" + index + ", " + what + ")", () -> x.pair(index, what), () -> model.pair(index, what));
+                    break;
+                case 2:
+                    both("logged(" + index + ", " + what + ")", () -> x.logged(index, what),
+                            () -> model.logged(index, what));
+                    break;
+                default:
+                    both("word(" + w + ", " + value + ")", () -> x.word(Check.word(w), value),
+                            () -> model.word(w, value));
             }
         }
 
@@ -103,8 +111,12 @@ public final class ModelTest {
             int kind = draw(100);
             if (kind < 40) {
                 change();
-            } else if (kind < 80) {
+            } else if (kind < 60) {
                 look();
+            } else if (kind < 85) {
+                oneValue();
+            } else if (kind < 87) {
+                both("digest()", x::digest, model::digest);
             } else {
                 command();
             }
@@ -513,6 +525,7 @@ public final class ModelTest {
         }
 
         long pair(int index, int what) {
+            check(what <= 2);
             List<Pair> all = new ArrayList<>(s.pairs.keySet());
             if (index >= all.size()) {
                 return -1;
@@ -522,6 +535,7 @@ public final class ModelTest {
         }
 
         long logged(int index, int what) {
+            check(what <= 2);
             if (index >= s.log.size()) {
                 return -1;
             }

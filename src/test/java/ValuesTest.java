@@ -165,8 +165,8 @@ public final class ValuesTest {
             "jiolm", "kop", "njk", "bhjm", "iklp", "ol", "wa", "edft", "awedxz", "rfgy",
             "yhji", "cfgb", "qase", "zsdc", "tghu", "asx",
         };
-        StuckKeys x = new StuckKeys();
         for (int a = 0; a < 26; a++) {
+            StuckKeys x = new StuckKeys();
             for (int b = 0; b < 26; b++) {
                 boolean near = beside[a].indexOf('a' + b) >= 0;
                 Check.due("distance " + a + " to " + b, x.distance(a + 1, b + 1), a == b ? 0 : near ? 2 : 4);

@@ -21,6 +21,7 @@ public final class UndoEdgesTest {
         fourStates();
         emptyStack();
         wholeStateButTheText();
+        everyKeyComesBack();
         fullTablesComeBack();
         refusedCallsSaveNone();
         lastOfManyCalls();
@@ -55,7 +56,8 @@ public final class UndoEdgesTest {
         new Named("addName of one there", x -> x.addName(w("bob"))),
         new Named("dropName", x -> x.dropName(w("bob"))),
         new Named("dropName of none", x -> x.dropName(w("the"))),
-        new Named("setStick", x -> x.setStick(25, 1)),
+        new Named("setStick of z", x -> x.setStick(25, 1)),
+        new Named("setStick of a", x -> x.setStick(0, 1)),
         new Named("setStick as it is", x -> x.setStick(25, 0)),
         new Named("set(0, 0)", x -> x.set(0, 0)),
         new Named("set(0, 4), as it is", x -> x.set(0, 4)),
@@ -212,6 +214,19 @@ public final class UndoEdgesTest {
         Check.due("undo()", x.undo(), 0);
         Check.due("whole(11)", x.whole(11), 1);
         Check.due("runCommands()", x.runCommands(), -10);
+    }
+
+    private static void everyKeyComesBack() {
+        Check.sentence("Restores the latest saved state");
+        for (int letter = 0; letter < 26; letter++) {
+            StuckKeys x = new StuckKeys();
+            x.setStick(letter, 2);
+            x.setStick(letter, 1);
+            Check.due("undo()", x.undo(), 1);
+            Check.due("key(" + letter + ", 3)", x.key(letter, 3), 2);
+            Check.due("undo()", x.undo(), 0);
+            Check.due("key(" + letter + ", 3)", x.key(letter, 3), 0);
+        }
     }
 
     /** 20 words, 10 names, 24 pairs, 24 bans, 20 strange words, 20 corrections, of two other words by turns. */

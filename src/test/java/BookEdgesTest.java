@@ -97,7 +97,7 @@ public final class BookEdgesTest {
         Check.dueWord("the last one", x.listed(false, 19), "z");
         Check.due("none behind it", x.listed(false, 20), -1);
         Check.due("place of the last one", x.word(Check.word("z"), 4), 19);
-        Check.sentence("IllegalStateException if it is not there, and there are 20 words");
+        Check.sentence("Throws `IllegalStateException` if it is not there, and there are 20 words");
         Check.due("dropWord(bb)", x.dropWord(Check.word("bb")), 3);
         Check.due("addWord(a, 1) as the 20th", x.addWord(Check.word("a"), 1), 0);
         Check.badState(x, "addWord(bb, 1) as the 21st", () -> x.addWord(Check.word("bb"), 1));
@@ -176,7 +176,7 @@ public final class BookEdgesTest {
         Check.due("addName of the last one", x.addName(Check.word("z")), 0);
         Check.dueWord("listed(true, 9)", x.listed(true, 9), "z");
         Check.due("listed(true, 10)", x.listed(true, 10), -1);
-        Check.sentence("IllegalStateException if it is not there, and there are 10 names");
+        Check.sentence("Throws `IllegalStateException` if it is not there, and there are 10 names");
         Check.due("dropName(ba)", x.dropName(Check.word("ba")), 1);
         Check.due("addName(a)", x.addName(Check.word("a")), 1);
         Check.badState(x, "addName(ba) as the 11th", () -> x.addName(Check.word("ba")));
@@ -263,7 +263,7 @@ public final class BookEdgesTest {
     }
 
     private static void settingsOutOfRange() {
-        Check.sentence("IllegalArgumentException if what or value is out of range");
+        Check.sentence("Throws `IllegalArgumentException` if what or value is out of range");
         int[] least = {0, 1, 1};
         int[] greatest = {12, 9, 5};
         StuckKeys x = new StuckKeys();

@@ -15,24 +15,30 @@ public final class CommandsTest {
     }
 
     private static void type() {
+        Check.sentence("Appends a byte to the command text. - `value`: 0 to 127 Returns the length of the text.");
         StuckKeys x = new StuckKeys();
         Check.due("type(0)", x.type(0), 1);
         Check.due("type(127)", x.type(127), 2);
+        Check.sentence("Throws `IllegalArgumentException` if value is out of range");
         Check.badArgument(x, "type(-1)", () -> x.type(-1));
         Check.badArgument(x, "type(128)", () -> x.type(128));
+        Check.sentence("Throws `IllegalStateException` if the text has 150 bytes");
         for (int length = 3; length <= 150; length++) {
             Check.due("type", x.type(' '), length);
         }
         Check.badState(x, "type of the 151st", () -> x.type(' '));
         Check.badArgument(x, "type of a bad 151st", () -> x.type(128));
+        Check.sentence("Every method that is marked \"undoable\" saves the whole state");
         Check.badState(x, "typing saves no state", x::undo);
     }
 
     private static void clearCommands() {
+        Check.sentence("Returns the length that it had.");
         StuckKeys x = new StuckKeys();
         Check.due("clear of an empty text", x.clearCommands(), 0);
         Check.typeText(x, "back;");
         Check.due("clear", x.clearCommands(), 5);
+        Check.sentence("Empties the command text.");
         Check.due("length", x.whole(11), 0);
         Check.due("type then", x.type('a'), 1);
         Check.badState(x, "clearing saves no state", x::undo);
@@ -47,6 +53,7 @@ public final class CommandsTest {
     }
 
     private static void faults() {
+        Check.sentence("Returns the number of commands that were carried out; -10 minus the fault if it has one.");
         fault(";", 0);
         fault("  ;", 2);
         fault("5", 0);
@@ -103,6 +110,10 @@ public final class CommandsTest {
     }
 
     private static void textsWithoutFault() {
+        Check.sentence("It is a sequence of commands (perhaps none: a text that is empty, or has spaces alone, has no"
+                + " fault), each of which is a command word, followed by its arguments, each with at least one space"
+                + " (byte 32) in front, and a semicolon. Spaces may also stand in front of a command, in front of a"
+                + " semicolon, and at the end.");
         StuckKeys x = new StuckKeys();
         Check.due("empty", Check.run(x, ""), 0);
         Check.due("which saves a state", x.undo(), 0);
@@ -118,10 +129,14 @@ public final class CommandsTest {
             longest.append(' ');
         }
         Check.due("of 150 bytes", Check.run(x, longest.toString()), 21);
+        Check.sentence("Runs the command text, which stays as it is.");
         Check.due("run again, the text stays", x.runCommands(), 21);
     }
 
     private static void commandsDoTheirCalls() {
+        Check.sentence("The commands are: word w n (addWord(w, n)), drop w (dropWord(w)), name w (addName(w)), type w"
+                + " (correct(w)), back (takeBack()), allow t w (allow(t, w)), stick w n (setStick(the first letter of"
+                + " w, n)), set n n (set(n, n)), with words w and t and numbers n.");
         StuckKeys x = new StuckKeys();
         Check.due("the", Check.run(x, "word the 5;word ten 3;type teh;type teh;name bob;stick tea 2;"), 6);
         Check.due("word", x.word(Check.word("the"), 0), 5);
@@ -139,6 +154,7 @@ public final class CommandsTest {
     }
 
     private static void textsAfterLongerOnes() {
+        Check.sentence("or the length of the text if it ends too soon");
         StuckKeys x = new StuckKeys();
         Check.due("longer", Check.run(x, "word a 1;"), 1);
         Check.due("a shorter one ends where it ends", Check.run(x, "word a 1"), -10 - 8);
@@ -147,6 +163,9 @@ public final class CommandsTest {
     }
 
     private static void runsStop() {
+        Check.sentence("To run a command text means: if it has a fault, nothing is done; otherwise the commands are"
+                + " carried out in their order, until one of them would throw an exception, which is not thrown;"
+                + " those before it stay done, and they alone count.");
         StuckKeys x = new StuckKeys();
         Check.due("count 0", Check.run(x, "word a 1;word b 0;word c 1;"), 1);
         Check.due("words", x.whole(0), 1);
@@ -168,6 +187,7 @@ public final class CommandsTest {
     }
 
     private static void runsSaveOneState() {
+        Check.sentence("A run saves one state, the one from before it; its commands save none.");
         StuckKeys x = new StuckKeys();
         Check.run(x, "word a 1;word b 1;word c 1;");
         Check.due("undo of a run", x.undo(), 0);
@@ -176,11 +196,18 @@ public final class CommandsTest {
         Check.run(x, "word a 1;word b 0;");
         Check.due("undo of a run that stopped", x.undo(), 0);
         Check.due("words", x.whole(0), 0);
+        Check.sentence("Undoable, if it has no fault.");
+        x.addWord(1, 1);
+        Check.due("a run with a fault", Check.run(x, "word b 1;word c;"), -10 - 15);
+        Check.due("undo of the call before it", x.undo(), 0);
+        Check.due("words", x.whole(0), 0);
     }
 
     private static void undo() {
+        Check.sentence("Throws `IllegalStateException` if the stack is empty");
         StuckKeys x = new StuckKeys();
         Check.badState(x, "undo of nothing", x::undo);
+        Check.sentence("Returns the number of states that are left on the stack.");
         for (int count = 1; count <= 6; count++) {
             x.addWord(1, count);
         }
@@ -194,6 +221,7 @@ public final class CommandsTest {
     }
 
     private static void undoOfEverything() {
+        Check.sentence("The saved state is the one from before the call.");
         StuckKeys x = new StuckKeys();
         x.addWord(Check.word("the"), 5);
         x.correct(Check.word("teh"));
@@ -211,6 +239,7 @@ public final class CommandsTest {
     }
 
     private static void undoAfterUndo() {
+        Check.sentence("Restores the latest saved state and removes it from the undo stack.");
         StuckKeys x = new StuckKeys();
         x.addWord(1, 1);
         x.addWord(1, 2);
@@ -223,6 +252,8 @@ public final class CommandsTest {
     }
 
     private static void digest() {
+        Check.sentence("Returns a hash of the state. It starts with h = 43304. For each of the following values v, in"
+                + " this order, h becomes 31 * h + v (long arithmetic, overflow wraps).");
         StuckKeys x = new StuckKeys();
         long hash = 43304;
         int[] first = {0, 0, 0, 0, 0, 0, 0, 0, 4, 2, 3, 0, 0};
@@ -241,6 +272,8 @@ public final class CommandsTest {
         x.takeBack();
         x.setStick(3, 2);
         x.type('a');
+        Check.sentence("for each name, in order, the name; for each pair pair() of 0 to 2; for each correction of the"
+                + " log, from the latest one, logged() of 0 to 2. Returns the hash.");
         Check.due("digest", x.digest(), digestOf(x, 4));
         x.undo();
         Check.due("digest after undo", x.digest(), digestOf(x, 3));

@@ -197,8 +197,8 @@ public final class CorrectingEdgesTest {
     }
 
     private static void nearestOfSeveral() {
-        Check.sentence("it becomes the nearest one, of several that with the greatest count, of several the first one in"
-                + " order");
+        Check.sentence("it becomes the nearest one, of several that with the greatest count, of several the first one"
+                + " in order");
         StuckKeys x = Check.book("aab", 999, "aq", 1, "as", 1, "aw", 1, "az", 1);
         x.set(1, 9);
         typed(x, "aa", 3, "aq");
@@ -238,8 +238,8 @@ public final class CorrectingEdgesTest {
     }
 
     private static void patienceOfEveryValue() {
-        Check.sentence("if it is just the patience then, and there are fewer than 10 names, it becomes a name (if it is none"
-                + " yet) and is no strange word any more");
+        Check.sentence("if it is just the patience then, and there are fewer than 10 names, it becomes a name (if it"
+                + " is none yet) and is no strange word any more");
         for (int patience = 1; patience <= 5; patience++) {
             StuckKeys x = new StuckKeys();
             x.set(2, patience);
@@ -396,8 +396,8 @@ public final class CorrectingEdgesTest {
     }
 
     private static void twentyFourPairs() {
-        Check.sentence("if there are 24, that with the least number of times, of several the one that was learned first,"
-                + " is forgotten");
+        Check.sentence("if there are 24, that with the least number of times, of several the one that was learned"
+                + " first, is forgotten");
         StuckKeys x = nearM(Check.words('m', 23));
         Check.due("whole(2)", x.whole(2), 23);
         Check.correctAll(x, "mx");

@@ -26,7 +26,8 @@ public final class KeysEdgesTest {
     }
 
     private static void rowsAndColumns() {
-        Check.sentence("each with the columns 0, 1, and so on");
+        Check.sentence("The keys lie in three rows, row 0 qwertyuiop, row 1 asdfghjkl, row 2 zxcvbnm, each with the"
+                + " columns 0, 1, and so on.");
         StuckKeys x = new StuckKeys();
         for (int row = 0; row < 3; row++) {
             for (int column = 0; column < ROWS[row].length(); column++) {
@@ -49,8 +50,9 @@ public final class KeysEdgesTest {
     }
 
     private static void besideEachOther() {
-        Check.sentence("Two keys are beside each other if they are in the same row with columns that differ by 1, or in"
-                + " two rows that follow on one another");
+        Check.sentence("Two keys are beside each other if they are in the same row with columns that differ by 1, or"
+                + " in two rows that follow on one another, where the column of the key in the upper row (the lower"
+                + " number) is that of the other one, or that plus 1.");
         for (int a = 0; a < 26; a++) {
             StuckKeys x = new StuckKeys();
             Check.due("key(" + a + ", 4)", x.key(a, 4), BESIDE[a].length());
@@ -79,7 +81,7 @@ public final class KeysEdgesTest {
     }
 
     private static void keyRanges() {
-        Check.sentence("letter: 0 for a, to 25 for z");
+        Check.sentence("`letter`: 0 for a, to 25 for z");
         StuckKeys x = new StuckKeys();
         for (int letter : new int[] {-1, 26, 100, Integer.MIN_VALUE, Integer.MAX_VALUE}) {
             for (int what = -1; what <= 5; what++) {

@@ -180,7 +180,8 @@ public final class RefusedTest {
         refused("all undone", RefusedTest::allUndone, one("takeBack()", STATE, x -> x.takeBack()), words);
         refused("undone", RefusedTest::undoneToTheEnd, one("undo()", STATE, x -> x.undo()), words);
         for (int value : new int[] {0, 'a', ' ', ';', 127}) {
-            refused("full text", RefusedTest::fullText, one("type as the 151st", STATE, x -> x.type(value)), "the", "a");
+            String call = "type(" + value + ") as the 151st";
+            refused("full text", RefusedTest::fullText, one(call, STATE, x -> x.type(value)), "the", "a");
         }
     }
 

@@ -58,7 +58,7 @@ public final class TakingBackEdgesTest {
     }
 
     private static void noneLeft() {
-        Check.sentence("Throws IllegalStateException if there is none");
+        Check.sentence("Throws `IllegalStateException` if there is none");
         StuckKeys x = nearM();
         Check.badState(x, "takeBack() of an empty log", x::takeBack);
         Check.correctAll(x, "m", "zzzzzzzz");
@@ -305,7 +305,7 @@ public final class TakingBackEdgesTest {
     }
 
     private static void allowWithBansFull() {
-        Check.sentence("at most 24 bans");
+        Check.sentence("at most 24 bans (a typed word and another one)");
         StuckKeys x = bansFull();
         Check.due("allow of none", x.allow(Check.word("my"), Check.word("m")), 0);
         for (String typed : new String[] {"ma", "mx", "mk"}) {

@@ -44,7 +44,7 @@ public final class TextsEdgesTest {
     }
 
     private static void bytes() {
-        Check.sentence("value: 0 to 127");
+        Check.sentence("`value`: 0 to 127");
         StuckKeys x = new StuckKeys();
         for (int value = 0; value <= 127; value++) {
             Check.due("type(" + value + ")", x.type(value), value + 1);
@@ -312,8 +312,11 @@ public final class TextsEdgesTest {
 
     private static void numbersOutOfRange() {
         Check.sentence("That a number is out of its range is no fault");
-        for (String text : new String[] {"word a 0;", "word a 000;", "stick a 3;", "stick a 999;", "set 0 13;", "set 0 999;",
-            "set 1 0;", "set 1 10;", "set 2 0;", "set 2 6;", "set 3 1;", "set 999 1;"}) {
+        String[] texts = {
+            "word a 0;", "word a 000;", "stick a 3;", "stick a 999;", "set 0 13;", "set 0 999;", "set 1 0;",
+            "set 1 10;", "set 2 0;", "set 2 6;", "set 3 1;", "set 999 1;",
+        };
+        for (String text : texts) {
             StuckKeys x = new StuckKeys();
             long before = x.digest();
             ran(x, text + "name a;", 0);
@@ -353,8 +356,8 @@ public final class TextsEdgesTest {
     }
 
     private static void commandsThatWouldThrow() {
-        Check.sentence("until one of them would throw an exception, which is not thrown; those before it stay done, and"
-                + " they alone count");
+        Check.sentence("until one of them would throw an exception, which is not thrown; those before it stay done,"
+                + " and they alone count");
         StuckKeys x = new StuckKeys();
         for (String word : Check.words('b', 19)) {
             x.addWord(Check.word(word), 1);

@@ -33,6 +33,7 @@ public final class TypingTest {
     }
 
     private static void wordOfTheBook() {
+        Check.sentence("0 It is a word of the book: its count increases by 1 (up to 999), and it stays.");
         StuckKeys x = bookOf("the", 997);
         for (int count = 998; count <= 1000; count++) {
             Check.dueWord("correct(the)", c(x, "the"), "the");
@@ -40,29 +41,35 @@ public final class TypingTest {
         }
         Check.due("no correction", x.whole(5), 0);
         Check.due("no strange word", x.whole(4), 0);
+        Check.sentence("Corrects a typed word. Undoable.");
         Check.due("undo", x.undo(), 3);
         Check.due("undo", x.undo(), 2);
         Check.due("its count", x.word(Check.word("the"), 0), 998);
+        Check.sentence("`typed`: a word");
         for (long bad : Check.noWords()) {
             Check.badArgument(x, "correct(" + bad + ")", () -> x.correct(bad));
         }
     }
 
     private static void name() {
+        Check.sentence("1 It is a name: it stays.");
         StuckKeys x = bookOf("the", 5);
         x.addName(Check.word("teh"));
         Check.dueWord("correct of a name", c(x, "teh"), "teh");
         Check.due("no correction", x.whole(5), 0);
         Check.due("not strange", x.whole(4), 0);
+        Check.sentence("When a word is typed, the first of these applies");
         x.addWord(Check.word("teh"), 1);
         c(x, "teh");
         Check.due("as a word of the book its count increases", x.word(Check.word("teh"), 0), 2);
     }
 
     private static void trustedPair() {
+        Check.sentence("Returns the word that it becomes, or the same one.");
         StuckKeys x = bookOf("the", 5);
         Check.dueWord("correct(teh)", c(x, "teh"), "the");
         Check.due("the word's count stays", x.word(Check.word("the"), 0), 5);
+        Check.sentence("2 There are pairs with this typed word, at least as many times as the trust");
         x.addWord(Check.word("tea"), 9);
         Check.due("one time is no trust", x.caseOf(Check.word("teh")), 3);
         Check.dueWord("teh with the nearest of the greatest count", c(x, "teh"), "the");
@@ -76,6 +83,8 @@ public final class TypingTest {
     }
 
     private static void pairsOfSeveral() {
+        Check.sentence("it becomes the other word of the one with the greatest number of times, of several of the one"
+                + " that was learned first.");
         StuckKeys x = new StuckKeys();
         x.set(1, 9);
         learn(x, "aa", "as", 2);
@@ -86,6 +95,7 @@ public final class TypingTest {
         x.addWord(Check.word("aw"), 1);
         x.set(1, 2);
         Check.dueWord("most times, learned first", c(x, "aa"), "aq");
+        Check.sentence("that are not banned, and whose other word is a word of the book or a name");
         x.takeBack();
         Check.dueWord("then the other one", c(x, "aa"), "aw");
         x.dropWord(Check.word("aw"));
@@ -101,6 +111,7 @@ public final class TypingTest {
     }
 
     private static void pairWhoseWordIsGone() {
+        Check.sentence("and whose other word is a word of the book or a name");
         StuckKeys x = bookOf("the", 5);
         c(x, "teh");
         c(x, "teh");
@@ -114,30 +125,39 @@ public final class TypingTest {
     }
 
     private static void nearestWord() {
+        Check.sentence("it becomes the nearest one, of several that with the greatest count, of several the first one"
+                + " in order.");
         StuckKeys x = bookOf("aq", 1, "as", 3, "aw", 3, "am", 9);
         Check.dueWord("of the nearest the greatest count, then the first", c(x, "aa"), "as");
+        Check.sentence("With 2 and 3 there is a correction, which is put into the log, and is learned");
         Check.due("correction in the log", x.logged(0, 0), Check.word("aa"));
         Check.due("with its word", x.logged(0, 1), Check.word("as"));
         Check.due("not undone", x.logged(0, 2), 0);
         Check.due("learned", x.pair(0, 2), 1);
+        Check.sentence("3 There are words of the book with a distance from it that is at most the limit, and not"
+                + " banned with it");
         x.set(0, 1);
         Check.dueWord("too far", c(x, "aa"), "aa");
         x.set(0, 2);
         Check.dueWord("just near enough", c(x, "aa"), "as");
+        Check.sentence("it becomes the nearest one");
         StuckKeys y = bookOf("ab", 1, "b", 999);
         Check.dueWord("nearer is better than more often", c(y, "av"), "ab");
     }
 
     private static void strangeWord() {
+        Check.sentence("4 It stays, and is strange: its number of times as a strange word increases by 1");
         StuckKeys x = new StuckKeys();
         for (int times = 1; times <= 2; times++) {
             Check.dueWord("correct(zip)", c(x, "zip"), "zip");
             Check.due("times", x.word(Check.word("zip"), 2), times);
             Check.due("no name yet", x.word(Check.word("zip"), 1), 0);
         }
+        Check.sentence("it becomes a name (if it is none yet) and is no strange word any more.");
         c(x, "zip");
         Check.due("a name at the patience", x.word(Check.word("zip"), 1), 1);
         Check.due("strange no more", x.whole(4), 0);
+        Check.sentence("if it is just the patience then");
         x.addWord(Check.word("zap"), 1);
         x.addName(Check.word("zep"));
         x.set(0, 0);
@@ -146,12 +166,15 @@ public final class TypingTest {
         x.set(2, 1);
         c(x, "zup");
         Check.due("beyond the patience is not just the patience", x.word(Check.word("zup"), 2), 3);
+        Check.sentence("A strange word that is added as a word or as a name otherwise stays strange.");
         x.addWord(Check.word("zup"), 1);
         x.addName(Check.word("zup"));
         Check.due("an added one stays strange", x.word(Check.word("zup"), 2), 3);
     }
 
     private static void strangeWordsForgotten() {
+        Check.sentence("If there are 20 strange words, and it is none, the one that came first is forgotten, also if"
+                + " this one becomes a name then.");
         StuckKeys x = new StuckKeys();
         x.set(2, 5);
         for (int i = 1; i <= 20; i++) {
@@ -161,6 +184,7 @@ public final class TypingTest {
         c(x, "qa");
         Check.due("the first is forgotten, though it came again", x.word(Check.word("qb"), 2), 0);
         Check.due("the second stays", x.word(Check.word("qc"), 2), 1);
+        Check.sentence("at most 20 strange words with numbers of times");
         Check.due("strange words", x.whole(4), 20);
         x.set(2, 1);
         c(x, "zz");
@@ -172,6 +196,7 @@ public final class TypingTest {
     }
 
     private static void namesFull() {
+        Check.sentence("and there are fewer than 10 names");
         StuckKeys x = new StuckKeys();
         x.set(2, 1);
         for (int i = 1; i <= 10; i++) {
@@ -188,6 +213,7 @@ public final class TypingTest {
     }
 
     private static void timesOfPairsEnd() {
+        Check.sentence("the times of this pair increase by 1 (up to 99); a new pair has 1 time");
         StuckKeys x = bookOf("the", 1);
         for (int times = 1; times <= 101; times++) {
             c(x, "teh");
@@ -197,6 +223,8 @@ public final class TypingTest {
     }
 
     private static void pairsForgotten() {
+        Check.sentence("and if there are 24, that with the least number of times, of several the one that was learned"
+                + " first, is forgotten.");
         StuckKeys x = bookOf("m", 1);
         x.set(0, 12);
         x.set(1, 9);
@@ -205,6 +233,8 @@ public final class TypingTest {
             c(x, letters.substring(i, i + 1));
         }
         c(x, "a");
+        Check.sentence("at most 24 pairs that were learned (a typed word and another one, with a number of times), in"
+                + " the order in which they were learned");
         Check.due("pairs", x.whole(2), 24);
         c(x, "z");
         Check.due("pairs still", x.whole(2), 24);
@@ -223,6 +253,7 @@ public final class TypingTest {
     }
 
     private static void firstPairForgotten() {
+        Check.sentence("of several the one that was learned first, is forgotten.");
         StuckKeys x = bookOf("m", 1);
         x.set(0, 12);
         for (int i = 0; i < 25; i++) {
@@ -233,6 +264,7 @@ public final class TypingTest {
     }
 
     private static void logForgets() {
+        Check.sentence("and a log of the latest 20 corrections (a typed word and another one, undone or not).");
         StuckKeys x = bookOf("m", 1);
         x.set(0, 12);
         for (int i = 0; i < 25; i++) {
@@ -241,6 +273,7 @@ public final class TypingTest {
         Check.due("corrections", x.whole(5), 20);
         Check.dueWord("the latest", x.logged(0, 0), "my");
         Check.dueWord("the oldest that is left", x.logged(19, 0), "mf");
+        Check.sentence("Undoes the latest correction of the log that is not undone.");
         for (int i = 0; i < 20; i++) {
             Check.dueWord("takeBack", x.takeBack(), "m" + (char) ('y' - i));
         }
@@ -248,12 +281,16 @@ public final class TypingTest {
     }
 
     private static void takeBack() {
+        Check.sentence("Throws `IllegalStateException` if there is none");
         StuckKeys x = bookOf("the", 5, "ten", 1);
         Check.badState(x, "takeBack of none", x::takeBack);
+        Check.sentence("Returns the typed word.");
         c(x, "teh");
         c(x, "thr");
         c(x, "teh");
         Check.dueWord("takeBack", x.takeBack(), "teh");
+        Check.sentence("it is marked so, its pair is banned, and is not learned any more; the typed word is strange"
+                + " once more, as with 4");
         Check.due("undone", x.logged(0, 2), 1);
         Check.due("the others not", x.whole(6), 1);
         Check.due("banned", x.whole(3), 1);
@@ -261,6 +298,7 @@ public final class TypingTest {
         Check.due("learned no more", x.word(Check.word("teh"), 5), 0);
         Check.due("the other pair is", x.word(Check.word("thr"), 5), 1);
         Check.due("strange once", x.word(Check.word("teh"), 2), 1);
+        Check.sentence("Undoes the latest correction of the log that is not undone. Undoable.");
         Check.due("undo", x.undo(), 3);
         Check.due("not undone after undo", x.logged(0, 2), 0);
         Check.due("no ban after undo", x.whole(3), 0);
@@ -276,6 +314,7 @@ public final class TypingTest {
     }
 
     private static void takeBackOfWordsAndNames() {
+        Check.sentence("also if it is a word of the book or a name by then");
         StuckKeys x = bookOf("the", 5);
         for (int i = 0; i < 4; i++) {
             c(x, "teh");
@@ -298,6 +337,7 @@ public final class TypingTest {
     }
 
     private static void takeBackWithBansFull() {
+        Check.sentence("or there are 24 bans and its pair is not among them");
         StuckKeys x = bookOf("m", 1);
         x.set(0, 12);
         for (int i = 0; i < 24; i++) {
@@ -318,6 +358,7 @@ public final class TypingTest {
     }
 
     private static void allow() {
+        Check.sentence("Returns 1 if it was there, otherwise 0.");
         StuckKeys x = bookOf("the", 5, "tea", 1);
         c(x, "teh");
         x.takeBack();
@@ -326,11 +367,14 @@ public final class TypingTest {
         Check.due("allow the other way round", x.allow(the, teh), 0);
         Check.due("allow", x.allow(teh, the), 1);
         Check.due("allow again", x.allow(teh, the), 0);
+        Check.sentence("Removes a ban.");
         Check.dueWord("corrected again", c(x, "teh"), "the");
+        Check.sentence("Throws `IllegalArgumentException` if a word is none");
         for (long bad : Check.noWords()) {
             Check.badArgument(x, "allow(" + bad + ", the)", () -> x.allow(bad, the));
             Check.badArgument(x, "allow(teh, " + bad + ")", () -> x.allow(teh, bad));
         }
+        Check.sentence("Removes a ban. Undoable.");
         Check.due("undo of the correction", x.undo(), 3);
         Check.due("undo of an allow that changed nothing", x.undo(), 2);
         Check.due("bans", x.whole(3), 0);

@@ -177,7 +177,7 @@ public final class UndoEdgesTest {
     }
 
     private static void emptyStack() {
-        Check.sentence("Throws IllegalStateException if the stack is empty");
+        Check.sentence("Throws `IllegalStateException` if the stack is empty");
         StuckKeys x = new StuckKeys();
         Check.badState(x, "undo() at first", x::undo);
         x.type('a');

@@ -101,7 +101,7 @@ public final class ValuesEdgesTest {
     }
 
     private static void pairs() {
-        Check.sentence("index: 0 for the one that was learned first, and so on");
+        Check.sentence("`index`: 0 for the one that was learned first, and so on");
         StuckKeys x = nearM(Check.words('k', 24));
         Check.correctAll(x, "kx", "kx");
         for (int i = 0; i <= 25; i++) {
@@ -113,7 +113,7 @@ public final class ValuesEdgesTest {
     }
 
     private static void logged() {
-        Check.sentence("index: 0 for the latest one, and so on");
+        Check.sentence("`index`: 0 for the latest one, and so on");
         StuckKeys x = nearM(Check.words('k', 24));
         x.takeBack();
         x.takeBack();
@@ -130,7 +130,7 @@ public final class ValuesEdgesTest {
     }
 
     private static void indexesAndValues(StuckKeys x, Asked asked, String call) {
-        Check.sentence("IllegalArgumentException if index is negative, or what is out of range");
+        Check.sentence("Throws `IllegalArgumentException` if index is negative, or what is out of range");
         for (int what = 0; what <= 2; what++) {
             int value = what;
             Check.due(call + "(MAX, " + what + ")", asked.of(Integer.MAX_VALUE, what), -1);
@@ -175,8 +175,8 @@ public final class ValuesEdgesTest {
     }
 
     private static void wholeOfFullTables() {
-        Check.sentence("0 words, 1 names, 2 pairs, 3 bans, 4 strange words, 5 corrections in the log, 6 of these those"
-                + " that are undone");
+        Check.sentence("0 words, 1 names, 2 pairs, 3 bans, 4 strange words, 5 corrections in the log, 6 of these"
+                + " those that are undone");
         StuckKeys x = full();
         int[] due = {20, 10, 24, 24, 20, 20, 0, 12, 9, 5, 19 * 999 + 1, 0};
         for (int what = 0; what <= 11; what++) {
@@ -248,7 +248,7 @@ public final class ValuesEdgesTest {
     }
 
     private static void rankOutOfRange() {
-        Check.sentence("IllegalArgumentException if a word is none, or rank is negative");
+        Check.sentence("Throws `IllegalArgumentException` if a word is none, or rank is negative");
         StuckKeys x = Check.book("the", 5);
         for (int rank : new int[] {-1, -2, Integer.MIN_VALUE}) {
             Check.badArgument(x, "suggestion(teh, " + rank + ")", () -> x.suggestion(w("teh"), rank));
@@ -259,8 +259,8 @@ public final class ValuesEdgesTest {
     }
 
     private static void reasonsInOrder() {
-        Check.sentence("1 it is no word of the book, 2 it is banned, 3 it is too far; 0 if it is one; of several the first"
-                + " one");
+        Check.sentence("1 it is no word of the book, 2 it is banned, 3 it is too far; 0 if it is one; of several the"
+                + " first one");
         StuckKeys x = Check.book("the", 5, "zzzz", 1);
         long teh = w("teh");
         long the = w("the");
@@ -356,7 +356,8 @@ public final class ValuesEdgesTest {
     }
 
     private static void digestOfNothing() {
-        Check.sentence("It starts with h = 43304. For each of the following values v, in this order, h becomes 31 * h + v");
+        Check.sentence("It starts with h = 43304. For each of the following values v, in this order, h becomes 31 * h"
+                + " + v");
         long hash = 43304;
         int[] values = {0, 0, 0, 0, 0, 0, 0, 0, 4, 2, 3, 0, 0};
         for (int value : values) {
@@ -376,8 +377,8 @@ public final class ValuesEdgesTest {
     }
 
     private static void digestOfFullTables() {
-        Check.sentence("the number of states on the undo stack; whole() of 0 to 11; for each letter key() of 3; for each"
-                + " word of the book, in order, the word, its word() of 0 to 6, and risk()");
+        Check.sentence("the number of states on the undo stack; whole() of 0 to 11; for each letter key() of 3; for"
+                + " each word of the book, in order, the word, its word() of 0 to 6, and risk()");
         StuckKeys x = full();
         Check.due("digest() of full tables", x.digest(), digestOf(x, 4));
         StuckKeys y = nearM("ma", "mb", "mb", "mc", "md");

@@ -5,7 +5,8 @@ public final class ValuesTest {
     public static void main(String[] args) {
         word();
         listed();
-        pairAndLogged();
+        pair();
+        logged();
         key();
         whole();
         distancesOfChanges();
@@ -15,6 +16,10 @@ public final class ValuesTest {
     }
 
     private static void word() {
+        Check.sentence("Returns a value of any word. - `word`: a word - `what`: 0 its count in the book (0 if it is"
+                + " not there), 1 1 if it is a name or 0 if not, 2 its number of times as a strange word (0 if it is"
+                + " none), 3 its letters, 4 its place in the order of the book, from 0 (NONE if it is not there), 5"
+                + " the pairs with it as typed word, 6 the bans with it as typed word Returns that value.");
         StuckKeys x = new StuckKeys();
         long the = Check.word("the");
         long teh = Check.word("teh");
@@ -41,6 +46,7 @@ public final class ValuesTest {
         x.takeBack();
         Check.due("bans then", x.word(teh, 6), 1);
         Check.due("bans with it as typed word", x.word(the, 6), 0);
+        Check.sentence("Throws `IllegalArgumentException` if a word is none, or what is out of range");
         Check.badArgument(x, "word(the, -1)", () -> x.word(the, -1));
         Check.badArgument(x, "word(the, 7)", () -> x.word(the, 7));
         for (long bad : Check.noWords()) {
@@ -58,57 +64,96 @@ public final class ValuesTest {
         }
         String[] words = {"a", "aaaaaaaa", "ab", "abc", "b", "ba", "zzzzzzzz", null};
         String[] names = {"y", "z", "zz", "zzz", null};
+        Check.sentence("Returns a word of the book, or a name, in order. - `names`: whether names are meant -"
+                + " `index`: 0 for the first one, and so on");
         for (int i = 0; i < words.length; i++) {
             Check.dueWord("listed(false, " + i + ")", x.listed(false, i), words[i]);
         }
+        Check.sentence("`names`: whether names are meant");
         for (int i = 0; i < names.length; i++) {
             Check.dueWord("listed(true, " + i + ")", x.listed(true, i), names[i]);
         }
+        Check.sentence("Returns the word; NONE if there are not so many.");
         Check.due("far behind", x.listed(false, Integer.MAX_VALUE), -1);
+        Check.sentence("Throws `IllegalArgumentException` if index is negative");
         Check.badArgument(x, "listed(false, -1)", () -> x.listed(false, -1));
         Check.badArgument(x, "listed(true, MIN)", () -> x.listed(true, Integer.MIN_VALUE));
     }
 
-    private static void pairAndLogged() {
-        StuckKeys x = new StuckKeys();
-        x.addWord(Check.word("the"), 5);
-        x.addWord(Check.word("an"), 5);
-        x.correct(Check.word("teh"));
-        x.correct(Check.word("am"));
-        x.correct(Check.word("teh"));
-        x.correct(Check.word("thr"));
+    /** Four corrections, of which the latest is undone. */
+    private static StuckKeys corrected() {
+        StuckKeys x = Check.book("the", 5, "an", 5);
+        Check.correctAll(x, "teh", "am", "teh", "thr");
         x.takeBack();
-        String[][] pairs = {{"teh", "the", "2"}, {"am", "an", "1"}};
-        String[][] log = {{"thr", "the", "1"}, {"teh", "the", "0"}, {"am", "an", "0"}, {"teh", "the", "0"}};
-        for (int i = 0; i < pairs.length; i++) {
-            Check.dueWord("pair(" + i + ", 0)", x.pair(i, 0), pairs[i][0]);
-            Check.dueWord("pair(" + i + ", 1)", x.pair(i, 1), pairs[i][1]);
-            Check.due("pair(" + i + ", 2)", x.pair(i, 2), Integer.parseInt(pairs[i][2]));
-        }
-        for (int i = 0; i < log.length; i++) {
-            Check.dueWord("logged(" + i + ", 0)", x.logged(i, 0), log[i][0]);
-            Check.dueWord("logged(" + i + ", 1)", x.logged(i, 1), log[i][1]);
-            Check.due("logged(" + i + ", 2)", x.logged(i, 2), Integer.parseInt(log[i][2]));
-        }
+        return x;
+    }
+
+    private static void pair() {
+        StuckKeys x = corrected();
+        rowOfPair(x, 0, "teh", "the", 2);
+        rowOfPair(x, 1, "am", "an", 1);
+        Check.sentence("Returns that value; NONE if there are not so many.");
         for (int i = 0; i <= 2; i++) {
             int what = i;
             Check.due("pair(2, " + what + ")", x.pair(2, what), -1);
-            Check.due("logged(4, " + what + ")", x.logged(4, what), -1);
             Check.due("pair(MAX, " + what + ")", x.pair(Integer.MAX_VALUE, what), -1);
-            Check.due("logged(MAX, " + what + ")", x.logged(Integer.MAX_VALUE, what), -1);
+        }
+        Check.sentence("Throws `IllegalArgumentException` if index is negative, or what is out of range");
+        for (int i = 0; i <= 2; i++) {
+            int what = i;
             Check.badArgument(x, "pair(-1, " + what + ")", () -> x.pair(-1, what));
-            Check.badArgument(x, "logged(-1, " + what + ")", () -> x.logged(-1, what));
-            Check.badArgument(x, "logged(MIN, " + what + ")", () -> x.logged(Integer.MIN_VALUE, what));
+            Check.badArgument(x, "pair(MIN, " + what + ")", () -> x.pair(Integer.MIN_VALUE, what));
         }
         for (int what : new int[] {-1, 3}) {
             Check.badArgument(x, "pair(0, " + what + ")", () -> x.pair(0, what));
             Check.badArgument(x, "pair(9, " + what + ")", () -> x.pair(9, what));
+        }
+    }
+
+    private static void rowOfPair(StuckKeys x, int index, String typed, String word, int times) {
+        Check.sentence("Returns a value of a learned pair. - `index`: 0 for the one that was learned first, and so on"
+                + " - `what`: 0 typed word, 1 other word, 2 times");
+        Check.dueWord("pair(" + index + ", 0)", x.pair(index, 0), typed);
+        Check.dueWord("pair(" + index + ", 1)", x.pair(index, 1), word);
+        Check.due("pair(" + index + ", 2)", x.pair(index, 2), times);
+    }
+
+    private static void logged() {
+        StuckKeys x = corrected();
+        rowOfLog(x, 0, "thr", "the", 1);
+        rowOfLog(x, 1, "teh", "the", 0);
+        rowOfLog(x, 2, "am", "an", 0);
+        rowOfLog(x, 3, "teh", "the", 0);
+        Check.sentence("Returns that value; NONE if there are not so many.");
+        for (int i = 0; i <= 2; i++) {
+            int what = i;
+            Check.due("logged(4, " + what + ")", x.logged(4, what), -1);
+            Check.due("logged(MAX, " + what + ")", x.logged(Integer.MAX_VALUE, what), -1);
+        }
+        Check.sentence("Throws `IllegalArgumentException` if index is negative, or what is out of range");
+        for (int i = 0; i <= 2; i++) {
+            int what = i;
+            Check.badArgument(x, "logged(-1, " + what + ")", () -> x.logged(-1, what));
+            Check.badArgument(x, "logged(MIN, " + what + ")", () -> x.logged(Integer.MIN_VALUE, what));
+        }
+        for (int what : new int[] {-1, 3}) {
             Check.badArgument(x, "logged(0, " + what + ")", () -> x.logged(0, what));
             Check.badArgument(x, "logged(9, " + what + ")", () -> x.logged(9, what));
         }
     }
 
+    private static void rowOfLog(StuckKeys x, int index, String typed, String word, int undone) {
+        Check.sentence("Returns a value of a correction of the log. - `index`: 0 for the latest one, and so on -"
+                + " `what`: 0 typed word, 1 other word, 2 1 if it is undone or 0 if not");
+        Check.dueWord("logged(" + index + ", 0)", x.logged(index, 0), typed);
+        Check.dueWord("logged(" + index + ", 1)", x.logged(index, 1), word);
+        Check.due("logged(" + index + ", 2)", x.logged(index, 2), undone);
+    }
+
     private static void key() {
+        Check.sentence("Returns a value of a key. - `letter`: 0 for a, to 25 for z - `what`: 0 row, 1 column, 2 0 for"
+                + " the left hand or 1 for the right one, 3 how it sticks, 4 the keys that are beside it Returns that"
+                + " value.");
         StuckKeys x = new StuckKeys();
         x.setStick(2, 1);
         int[] neighbors = {
@@ -124,6 +169,7 @@ public final class ValuesTest {
                 Check.due("neighbors of " + letter, x.key(letter, 4), neighbors[letter]);
             }
         }
+        Check.sentence("Throws `IllegalArgumentException` if letter or what is out of range");
         for (int bad : new int[] {-1, 26, Integer.MAX_VALUE, Integer.MIN_VALUE}) {
             Check.badArgument(x, "key(" + bad + ", 0)", () -> x.key(bad, 0));
         }
@@ -132,6 +178,9 @@ public final class ValuesTest {
     }
 
     private static void whole() {
+        Check.sentence("Returns a value of the whole. - `what`: 0 words, 1 names, 2 pairs, 3 bans, 4 strange words, 5"
+                + " corrections in the log, 6 of these those that are undone, 7 to 9 the settings 0 to 2, 10 sum of"
+                + " the counts, 11 length of the command text Returns that value.");
         StuckKeys x = new StuckKeys();
         x.addWord(Check.word("the"), 5);
         x.addWord(Check.word("an"), 999);
@@ -154,12 +203,15 @@ public final class ValuesTest {
         for (int what = 0; what < due.length; what++) {
             Check.due("whole(" + what + ")", x.whole(what), due[what]);
         }
+        Check.sentence("Throws `IllegalArgumentException` if what is out of range");
         Check.badArgument(x, "whole(-1)", () -> x.whole(-1));
         Check.badArgument(x, "whole(12)", () -> x.whole(12));
     }
 
     /** Of every two letters the distance tells whether their keys are beside each other. */
     private static void distancesOfChanges() {
+        Check.sentence("where the column of the key in the upper row (the lower number) is that of the other one, or"
+                + " that plus 1.");
         String[] beside = {
             "qwsz", "vghn", "xdfv", "serfcx", "wsdr", "drtgvc", "ftyhbv", "gyujnb", "ujko", "huikmn",
             "jiolm", "kop", "njk", "bhjm", "iklp", "ol", "wa", "edft", "awedxz", "rfgy",
@@ -175,6 +227,8 @@ public final class ValuesTest {
     }
 
     private static void distancesOfOtherCosts() {
+        Check.sentence("Returns a distance. - `typed`: a word - `word`: a word Returns the distance from the typed"
+                + " word to the other one.");
         StuckKeys x = new StuckKeys();
         far(x, "ab", "a", 3);
         far(x, "a", "ab", 3);
@@ -207,6 +261,7 @@ public final class ValuesTest {
     }
 
     private static void distance() {
+        Check.sentence("The distance from a typed word to another one is the least sum of costs");
         StuckKeys x = new StuckKeys();
         far(x, "aaaaaaaa", "pppppppp", 32);
         far(x, "abcdefgh", "abcdefgh", 0);
@@ -214,6 +269,7 @@ public final class ValuesTest {
         far(x, "a", "zzzzzzzz", 23);
         far(x, "abcd", "badc", 6);
         far(x, "lettre", "letter", 3);
+        Check.sentence("Throws `IllegalArgumentException` if a word is none");
         for (long bad : Check.noWords()) {
             Check.badArgument(x, "distance(" + bad + ", a)", () -> x.distance(bad, 1));
             Check.badArgument(x, "distance(a, " + bad + ")", () -> x.distance(1, bad));

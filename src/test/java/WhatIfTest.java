@@ -22,6 +22,8 @@ public final class WhatIfTest {
     }
 
     private static void caseOf() {
+        Check.sentence("Tells which case would apply to a typed word. - `typed`: a word Returns 0 to 4, as told"
+                + " above.");
         StuckKeys x = book();
         x.addName(Check.word("the"));
         x.addName(Check.word("tehh"));
@@ -36,6 +38,7 @@ public final class WhatIfTest {
         Check.due("near one word alone", x.caseOf(Check.word("tthe")), 3);
         x.set(0, 0);
         Check.due("limit 0", x.caseOf(Check.word("thw")), 4);
+        Check.sentence("Throws `IllegalArgumentException` if a word is none");
         for (long bad : Check.noWords()) {
             Check.badArgument(x, "caseOf(" + bad + ")", () -> x.caseOf(bad));
         }
@@ -50,6 +53,9 @@ public final class WhatIfTest {
     }
 
     private static void suggestion() {
+        Check.sentence("Returns a suggestion for a typed word: the words of the book with a distance that is at most"
+                + " the limit, and not banned with it, by distances, then greater counts, then in order. - `typed`: a"
+                + " word - `rank`: 0 for the first one, and so on");
         StuckKeys x = book();
         ranks(x, "teh", "the", "ten", "then");
         ranks(x, "the", "the", "then", "toe");
@@ -75,6 +81,7 @@ public final class WhatIfTest {
         y.dropWord(Check.word("aq"));
         y.dropWord(Check.word("aam"));
         ranks(y, "aa");
+        Check.sentence("Throws `IllegalArgumentException` if a word is none, or rank is negative");
         Check.badArgument(x, "suggestion(teh, -1)", () -> x.suggestion(Check.word("teh"), -1));
         for (long bad : Check.noWords()) {
             Check.badArgument(x, "suggestion(" + bad + ", 0)", () -> x.suggestion(bad, 0));
@@ -82,6 +89,9 @@ public final class WhatIfTest {
     }
 
     private static void reason() {
+        Check.sentence("Tells why a word would not be a suggestion. - `typed`: a word - `word`: a word Returns 1 it"
+                + " is no word of the book, 2 it is banned, 3 it is too far; 0 if it is one; of several the first"
+                + " one.");
         StuckKeys x = book();
         long teh = Check.word("teh");
         x.correct(teh);
@@ -95,6 +105,7 @@ public final class WhatIfTest {
         Check.due("banned and too far", x.reason(teh, Check.word("the")), 2);
         x.dropWord(Check.word("the"));
         Check.due("no word, banned and too far", x.reason(teh, Check.word("the")), 1);
+        Check.sentence("Throws `IllegalArgumentException` if a word is none");
         for (long bad : Check.noWords()) {
             Check.badArgument(x, "reason(" + bad + ", teh)", () -> x.reason(bad, teh));
             Check.badArgument(x, "reason(teh, " + bad + ")", () -> x.reason(teh, bad));
@@ -107,6 +118,9 @@ public final class WhatIfTest {
     }
 
     private static void risk() {
+        Check.sentence("Counts the words of the book for which a word, typed by mistake, could be meant: the distance"
+                + " from it to them is at most the limit, and they are not the same. - `word`: a word Returns the"
+                + " number.");
         StuckKeys x = book();
         Check.due("risk(the) without itself", x.risk(Check.word("the")), 2);
         Check.due("risk(teh)", x.risk(Check.word("teh")), 3);
@@ -121,12 +135,15 @@ public final class WhatIfTest {
         y.set(0, 1);
         Check.due("the distance is from it to them", y.risk(Check.word("b")), 1);
         Check.due("and not from them to it", y.risk(Check.word("ab")), 0);
+        Check.sentence("Throws `IllegalArgumentException` if a word is none");
         for (long bad : Check.noWords()) {
             Check.badArgument(x, "risk(" + bad + ")", () -> x.risk(bad));
         }
     }
 
     private static void riskiest() {
+        Check.sentence("Returns the word of the book with the greatest risk. Returns the word, of several the first"
+                + " one in order; NONE without words.");
         StuckKeys x = new StuckKeys();
         Check.due("without words", x.riskiest(), -1);
         x.addWord(Check.word("pppp"), 1);
@@ -140,6 +157,8 @@ public final class WhatIfTest {
     }
 
     private static void bestDropping() {
+        Check.sentence("Returns the key which, if it dropped letters (and all others stuck as they do), would bring a"
+                + " typed word nearest to another one.");
         StuckKeys x = new StuckKeys();
         best(x, "te", "tree", 'e', 4);
         best(x, "a", "a", 'a', 0);
@@ -155,6 +174,7 @@ public final class WhatIfTest {
         x.setStick('r' - 'a', 1);
         best(x, "te", "tree", 'e', 2);
         Check.due("the key sticks as it did", x.key('e' - 'a', 3), 0);
+        Check.sentence("Throws `IllegalArgumentException` if a word is none");
         for (long bad : Check.noWords()) {
             Check.badArgument(x, "bestDropping(" + bad + ", a)", () -> x.bestDropping(bad, 1));
             Check.badArgument(x, "bestDropping(a, " + bad + ")", () -> x.bestDropping(1, bad));
@@ -167,6 +187,7 @@ public final class WhatIfTest {
     }
 
     private static void nothingChanges() {
+        Check.sentence("what if, which changes nothing");
         StuckKeys x = book();
         long before = x.digest();
         x.caseOf(Check.word("the"));

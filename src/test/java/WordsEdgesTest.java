@@ -54,7 +54,8 @@ public final class WordsEdgesTest {
     }
 
     private static void everyLetterAtEveryPlace() {
-        Check.sentence("five bits for each letter (a is 1, z is 26), the last letter in the lowest ones");
+        Check.sentence("As a number it is told by five bits for each letter (a is 1, z is 26), the last letter in the"
+                + " lowest ones");
         for (int length = 1; length <= 8; length++) {
             StuckKeys x = new StuckKeys();
             for (int place = 0; place < length; place++) {
@@ -112,7 +113,8 @@ public final class WordsEdgesTest {
     }
 
     private static void negativeNumbers() {
-        Check.sentence("As a number it is told by five bits for each letter");
+        Check.sentence("Where a word is an argument, IllegalArgumentException is thrown \"if a word is none\": if a"
+                + " number is not that of a word.");
         refused(-1);
         refused(-26);
         refused(-Check.word("aaaaaaaa"));
@@ -128,7 +130,8 @@ public final class WordsEdgesTest {
     }
 
     private static void order() {
-        Check.sentence("Words are in order like in a dictionary (a word that is the beginning of another one comes first)");
+        Check.sentence("Words are in order like in a dictionary (a word that is the beginning of another one comes"
+                + " first)");
         String[] sorted = {
             "a", "aa", "aaaaaaaa", "aaaaaaab", "aaaaaaz", "ab", "az", "b", "ba", "bzzzzzzz", "ca", "m", "y",
             "yzzzzzzz", "z", "za", "zz", "zzzzzzz", "zzzzzzzy", "zzzzzzzz",

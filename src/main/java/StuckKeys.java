@@ -624,16 +624,22 @@ public final class StuckKeys {
 
     /** The whole state but the command text: what an undo brings back. */
     private static final class Book {
+        private static final int MAX_NAMES = 10;
+        private static final int MAX_PAIRS = 24;
+        private static final int MAX_BANS = 24;
+        private static final int MAX_STRANGE = 20;
+        private static final int MAX_LOG = 20;
+
         /** Word and count, in the order of the dictionary. */
         private final Rows words = new Rows(MAX_WORDS);
-        private final Rows names = new Rows(10);
+        private final Rows names = new Rows(MAX_NAMES);
         /** Typed word, other word and times, in the order in which they were learned. */
-        private final Rows pairs = new Rows(24);
-        private final Rows bans = new Rows(24);
+        private final Rows pairs = new Rows(MAX_PAIRS);
+        private final Rows bans = new Rows(MAX_BANS);
         /** Strange word and times, in the order in which they came. */
-        private final Rows strange = new Rows(20);
+        private final Rows strange = new Rows(MAX_STRANGE);
         /** Typed word, other word and whether it is undone, the latest one last. */
-        private final Rows log = new Rows(20);
+        private final Rows log = new Rows(MAX_LOG);
         private final int[] sticks = new int[LETTERS];
         private final int[] settings = {4, 2, 3};
 
